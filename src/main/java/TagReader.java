@@ -338,7 +338,7 @@ public final class TagReader {
         if (!within(m, 0, MOST_TAGS) || !isShow(e, a, c)) {
             return BAD;
         }
-        odds.fillRow(c, m, 2);
+        odds.fillRow(c, m, false);
         return odds.waysToShow(m, e, a, c);
     }
 
@@ -1127,21 +1127,21 @@ public final class TagReader {
         // Entry r: the ways of r TAGS in the SLOTS that the row was filled for.
         private final long[] row = new long[MOST_TAGS + 1];
 
-        /** Ways in which each SLOT has least TAGS at least, or, if least is 0, not just one. */
-        void fillRow(int slots, int tags, int least) {
+        /** Ways in which no SLOT has just one TAG, and none is EMPTY, unless it may be. */
+        void fillRow(int slots, int tags, boolean mayBeEmpty) {
             for (int r = 0; r <= tags && r < row.length; r++) {
                 row[r] = r == 0 ? 1 : 0;
             }
             for (int slot = 0; slot < slots; slot++) {
                 // From above downwards, since each entry needs the old ones at and below it.
                 for (int r = Math.min(tags, row.length - 1); r >= 0; r--) {
-                    row[r] = withOneSlotMore(r, least);
+                    row[r] = withOneSlotMore(r, mayBeEmpty);
                 }
             }
         }
 
-        private long withOneSlotMore(int r, int least) {
-            long sum = least == 0 ? row[r] : 0;
+        private long withOneSlotMore(int r, boolean mayBeEmpty) {
+            long sum = mayBeEmpty ? row[r] : 0;
             for (int inside = 2; inside <= r; inside++) {
                 sum += choose(r, inside) * row[r - inside];
             }
@@ -1156,7 +1156,7 @@ public final class TagReader {
             if (a > f || a > m) {
                 return 0;
             }
-            fillRow(f - a, m - a, 0);
+            fillRow(f - a, m - a, true);
             return choose(f, a) * arranged(m, a) * waysAt(m - a);
         }
 
@@ -1169,7 +1169,7 @@ public final class TagReader {
         }
 
         int likeliest(int e, int a, int c) {
-            fillRow(c, MOST_TAGS, 2);
+            fillRow(c, MOST_TAGS, false);
             int best = NONE;
             // The ways for the best m so far, times f for each TAG more: so both are out of f^m.
             long bestWays = 0;

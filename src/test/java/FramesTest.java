@@ -36,6 +36,10 @@ public final class FramesTest {
                 }
             }
         }
+        // Enough seeds for every sum of the lowest 16 bits, so that each carry is met.
+        for (int seed = 0; seed < 1 << 16; seed++) {
+            Check.due("slot(0, 64, " + seed + ")", x.slot(0, 64, seed), plainSlot(0, 64, seed));
+        }
         Check.due("f 0", x.slot(0, 0, 0), TagReader.BAD);
         Check.due("f 65", x.slot(0, 65, 0), TagReader.BAD);
         Check.due("f lowest", x.slot(0, MIN, 0), TagReader.BAD);
@@ -218,6 +222,16 @@ public final class FramesTest {
         Check.tell(y, "frame 3; grow 50 100; shrink 1 10; rounds 2;");
         y.all(9);
         Check.due("grow to the same is ahead of shrink", y.went(1), 3 + 3);
+        y.wake();
+        y.tag(numberIn(y, 2, 3, 9, 0), 1);
+        y.tag(numberIn(y, 2, 3, 9, 1), 1);
+        Check.tell(y, "frame 3; grow 67 200; rounds 2;");
+        y.all(9);
+        Check.due("two of three are no 67 of 100", y.went(1), 3 + 3);
+        y.wake();
+        Check.tell(y, "frame 3; grow 66 200; rounds 2;");
+        y.all(9);
+        Check.due("but 66", y.went(1), 3 + 6);
     }
 
     private static void shrinkingFrames() {

@@ -125,10 +125,34 @@ public final class MissingTest {
                 }
             }
         }
+        hundredSeeds();
         TagReader x = withKnown(1, 2);
         for (int f : new int[] {0, 65, -1, MIN, MAX}) {
             Check.due("seed(" + f + ")", x.seed(f, 0), TagReader.BAD);
         }
         Check.due("known ones stay", x.count(3), 2);
+    }
+
+    /** A seed that is better than the hundred ahead of it is found from 99 ahead of it on, not from 100. */
+    private static void hundredSeeds() {
+        int[] numbers = {9, 40, 3, 63, 0, 17, 22, 30, 31, 50};
+        TagReader x = withKnown(numbers);
+        int[] seen = new int[5000];
+        for (int seed = 0; seed < seen.length; seed++) {
+            seen[seed] = Integer.bitCount(plainSeen(x, numbers, 13, seed));
+        }
+        int found = 0;
+        for (int seed = 100; seed < seen.length; seed++) {
+            int most = 0;
+            for (int i = seed - 100; i < seed; i++) {
+                most = Math.max(most, seen[i]);
+            }
+            if (seen[seed] > most) {
+                Check.due("the last of a hundred", x.seed(13, seed - 99), seed);
+                Check.holds("one too far", x.seed(13, seed - 100) < seed);
+                found++;
+            }
+        }
+        Check.holds("some were found", found > 0);
     }
 }

@@ -130,6 +130,8 @@ public final class RulesTest {
         faultIs("Frame 8;", 1, 0);
         faultIs("frames 8;", 1, 0);
         faultIs("fram 8;", 1, 0);
+        faultIs("xrame 8;", 1, 0);
+        faultIs("framx 8;", 1, 0);
         faultIs("framegrow 8;", 1, 0);
         faultIs("frame x;", 1, 6);
         faultIs("frame 12345;", 1, 6);

@@ -150,6 +150,8 @@ public final class SheetsTest {
         x.sheet(2, 2, 0);
         Check.due("no cell", x.read(2, 2, 0, 1), 0);
         Check.due("INDEX of no cell", x.torn(), 2);
+        Check.due("no cell of another lane", x.read(2, 1, 0, 1), 0);
+        Check.due("CAST of no cell", x.torn(), 3);
     }
 
     private static void readRefused() {
