@@ -9,6 +9,8 @@ import java.util.Arrays;
 import java.util.HashSet;
 import java.util.Set;
 import java.util.TreeSet;
+import java.util.regex.Matcher;
+import java.util.regex.Pattern;
 
 /** The face of the document, and what LANGUAGE.md leaves of Java. */
 public final class FormTest {
@@ -21,6 +23,9 @@ public final class FormTest {
         "int best(int)", "int guess(int,int,int)", "long ways(int,int,int,int)", "int know(int)", "int forget()",
         "int missing(int,int,int)", "int seen(int,int)", "int seed(int,int)", "int sheet(int,int,int)",
         "int lay(int,int,int)", "int read(int,int,int,int)", "int torn()", "int count(int)"};
+
+    private static final Set<String> PUBLIC_NAMES = new HashSet<>();
+    private static final Set<String> LIBRARY = Set.of("Math.min", "Math.max", "Integer.bitCount", "System.arraycopy");
 
     private static final String[] RULED_OUT = {"throw", "throws", "try", "catch", "synchronized", "assert", "import",
         "package", "Object", "equals", "hashCode", "toString", "var", "System.out", "->", "::"};
@@ -45,18 +50,17 @@ public final class FormTest {
     private static void face() {
         Check.due("public and final", TagReader.class.getModifiers(), Modifier.PUBLIC | Modifier.FINAL);
         Set<String> visible = new TreeSet<>();
-        Set<String> names = new HashSet<>();
         for (Method method : TagReader.class.getDeclaredMethods()) {
             if (!Modifier.isPrivate(method.getModifiers())) {
                 Check.due(signature(method), method.getModifiers(), Modifier.PUBLIC);
                 visible.add(signature(method));
-                names.add(method.getName());
+                PUBLIC_NAMES.add(method.getName());
             }
         }
         Check.holds("the calls of the document: " + visible, visible.equals(new TreeSet<>(Arrays.asList(CALLS))));
         for (Method method : TagReader.class.getDeclaredMethods()) {
             if (Modifier.isPrivate(method.getModifiers())) {
-                Check.holds(method.getName() + " is no public name", !names.contains(method.getName()));
+                Check.holds(method.getName() + " is no public name", !PUBLIC_NAMES.contains(method.getName()));
             }
         }
         Constructor<?>[] constructors = TagReader.class.getDeclaredConstructors();
@@ -83,7 +87,12 @@ public final class FormTest {
     private static void nestedClasses() {
         Class<?>[] nested = TagReader.class.getDeclaredClasses();
         Check.holds("some twelve classes", nested.length <= 11);
+        isSmall(TagReader.class);
         for (Class<?> one : nested) {
+            isSmall(one);
+            for (Method method : one.getDeclaredMethods()) {
+                Check.holds(method + " bears no public name", !PUBLIC_NAMES.contains(method.getName()));
+            }
             int is = one.getModifiers();
             Check.holds(one + " is static", Modifier.isStatic(is));
             Check.holds(one + " is not public", !Modifier.isPublic(is) && !Modifier.isProtected(is));
@@ -91,6 +100,36 @@ public final class FormTest {
                 int kind = field.getModifiers();
                 Check.holds(field + " is final, if static", !Modifier.isStatic(kind) || Modifier.isFinal(kind));
             }
+        }
+    }
+
+    private static void isSmall(Class<?> one) {
+        int fields = 0;
+        for (Field field : one.getDeclaredFields()) {
+            fields += Modifier.isStatic(field.getModifiers()) ? 0 : 1;
+        }
+        Check.holds(one + " has some twenty fields", fields <= 20);
+        for (Method method : one.getDeclaredMethods()) {
+            Check.holds(method + " takes seven parameters at most", method.getParameterCount() <= 7);
+        }
+    }
+
+    private static void methodsAreShort(String source) {
+        int lines = 0;
+        for (String line : source.split("\n")) {
+            boolean begins = line.matches(" {4}( {4})?(?!if|for|while|switch|do)[a-z][^=;]*\\) \\{");
+            lines = begins ? 1 : lines + 1;
+            boolean ends = line.matches(" {4}( {4})?\\}");
+            Check.holds("some sixty lines, ended by: " + line, !ends || lines <= 60);
+        }
+    }
+
+    /** What stands ahead of a dot with a call behind it is of the library's part that is left, or our own. */
+    private static void callsOfTheLibrary(String bare) {
+        Matcher matcher = Pattern.compile("\\b([A-Z][a-z]\\w*)\\.([a-z]\\w*)\\(").matcher(bare);
+        while (matcher.find()) {
+            String call = matcher.group(1) + "." + matcher.group(2);
+            Check.holds("the library's " + call, LIBRARY.contains(call));
         }
     }
 
@@ -102,6 +141,8 @@ public final class FormTest {
             String pattern = isWord ? "(?s).*\\b" + word.replace(".", "\\.") + "\\b.*" : "(?s).*" + word + ".*";
             Check.holds("no " + word, !bare.matches(pattern));
         }
+        methodsAreShort(bare);
+        callsOfTheLibrary(bare);
         for (int i = 0; i < source.length(); i++) {
             Check.holds("a sign of 1 to 127 at " + i, source.charAt(i) > 0 && source.charAt(i) < 128);
         }

@@ -58,7 +58,7 @@ public final class MissingTest {
                     int bits = slots & (1 << f) - 1;
                     int want = 0;
                     for (int i = 0; i < numbers.length; i++) {
-                        boolean empty = (bits & 1 << x.slot(numbers[i], f, seed)) == 0;
+                        boolean empty = (bits & 1 << PlainReader.slotOf(numbers[i], f, seed)) == 0;
                         want += empty ? 1 << i : 0;
                     }
                     Check.due("missing(" + f + ", " + seed + ", " + bits + ")", x.missing(f, seed, bits), want);
@@ -81,14 +81,14 @@ public final class MissingTest {
         Check.due("the greatest", x.missing(30, 0, (1 << 30) - 1), 0);
     }
 
-    private static int plainSeen(TagReader x, int[] numbers, int f, int seed) {
+    private static int plainSeen(int[] numbers, int f, int seed) {
         int[] inside = new int[f];
         for (int number : numbers) {
-            inside[x.slot(number, f, seed)]++;
+            inside[PlainReader.slotOf(number, f, seed)]++;
         }
         int seen = 0;
         for (int i = 0; i < numbers.length; i++) {
-            seen += inside[x.slot(numbers[i], f, seed)] == 1 ? 1 << i : 0;
+            seen += inside[PlainReader.slotOf(numbers[i], f, seed)] == 1 ? 1 << i : 0;
         }
         return seen;
     }
@@ -100,7 +100,7 @@ public final class MissingTest {
         x.hush(0, true);
         for (int f = 1; f <= 64; f += 7) {
             for (int seed : new int[] {0, 1, -1, 77, MIN, MAX}) {
-                Check.due("seen(" + f + ", " + seed + ")", x.seen(f, seed), plainSeen(x, numbers, f, seed));
+                Check.due("seen(" + f + ", " + seed + ")", x.seen(f, seed), plainSeen(numbers, f, seed));
             }
         }
         Check.due("one alone in one slot", withKnown(8).seen(1, 0), 1);
@@ -118,8 +118,8 @@ public final class MissingTest {
                 for (int s : new int[] {0, 3, -50, 1000000, MAX - 99, MIN}) {
                     int best = s;
                     for (int i = 1; i < 100; i++) {
-                        int here = Integer.bitCount(plainSeen(x, numbers, f, s + i));
-                        best = here > Integer.bitCount(plainSeen(x, numbers, f, best)) ? s + i : best;
+                        int here = Integer.bitCount(plainSeen(numbers, f, s + i));
+                        best = here > Integer.bitCount(plainSeen(numbers, f, best)) ? s + i : best;
                     }
                     Check.due("seed(" + f + ", " + s + ")", x.seed(f, s), best);
                 }
@@ -139,7 +139,7 @@ public final class MissingTest {
         TagReader x = withKnown(numbers);
         int[] seen = new int[5000];
         for (int seed = 0; seed < seen.length; seed++) {
-            seen[seed] = Integer.bitCount(plainSeen(x, numbers, 13, seed));
+            seen[seed] = Integer.bitCount(plainSeen(numbers, 13, seed));
         }
         int found = 0;
         for (int seed = 100; seed < seen.length; seed++) {

@@ -45,60 +45,19 @@ public final class OddsTest {
         }
     }
 
-    /** Counts with one SLOT behind another, by how many are alone and clash. */
-    private static BigInteger[][] counted(int f, int m) {
-        BigInteger[][][] ways = new BigInteger[m + 1][f + 1][f + 1];
-        clear(ways);
-        ways[0][0][0] = BigInteger.ONE;
-        for (int slot = 0; slot < f; slot++) {
-            BigInteger[][][] next = new BigInteger[m + 1][f + 1][f + 1];
-            clear(next);
-            for (int used = 0; used <= m; used++) {
-                for (int a = 0; a <= slot; a++) {
-                    for (int c = 0; a + c <= slot; c++) {
-                        for (int here = 0; here + used <= m; here++) {
-                            int alone = here == 1 ? a + 1 : a;
-                            int clash = here > 1 ? c + 1 : c;
-                            next[used + here][alone][clash] = next[used + here][alone][clash]
-                                    .add(ways[used][a][c].multiply(choose(m - used, here)));
-                        }
-                    }
-                }
-            }
-            ways = next;
-        }
-        return ways[m];
-    }
-
-    private static void clear(BigInteger[][][] ways) {
-        for (BigInteger[][] plane : ways) {
-            for (BigInteger[] row : plane) {
-                java.util.Arrays.fill(row, BigInteger.ZERO);
-            }
-        }
-    }
-
-    private static BigInteger factorial(int v) {
-        return v < 2 ? BigInteger.ONE : factorial(v - 1).multiply(BigInteger.valueOf(v));
-    }
-
-    private static BigInteger choose(int from, int some) {
-        return factorial(from).divide(factorial(some).multiply(factorial(from - some)));
-    }
-
     private static void fractionIs(String call, long top, long bottom, BigInteger wantTop, BigInteger wantBottom) {
         BigInteger divisor = wantTop.gcd(wantBottom);
         Check.due(call + " numerator", top, wantTop.divide(divisor).longValueExact());
         Check.due(call + " denominator", bottom, wantBottom.divide(divisor).longValueExact());
     }
 
-    private static void aloneIs(TagReader x, int f, int m, int a, BigInteger want) {
+    private static void aloneIs(int f, int m, int a, BigInteger want) {
+        TagReader x = new TagReader();
         String call = "alone(" + f + ", " + m + ", " + a + ")";
         fractionIs(call, x.alone(f, m, a, 0), x.alone(f, m, a, 1), want, BigInteger.valueOf(f).pow(m));
     }
 
     private static void aloneByTrying() {
-        TagReader x = new TagReader();
         for (int f = 1; f <= 5; f++) {
             for (int m = 1; m <= 6; m++) {
                 long[][] found = tried(f, m);
@@ -107,23 +66,17 @@ public final class OddsTest {
                     for (int c = 0; a <= m && c <= m; c++) {
                         ways += found[a][c];
                     }
-                    aloneIs(x, f, m, a, BigInteger.valueOf(ways));
+                    aloneIs(f, m, a, BigInteger.valueOf(ways));
                 }
             }
         }
     }
 
     private static void aloneByCounting() {
-        TagReader x = new TagReader();
         for (int f = 1; f <= 12; f++) {
             for (int m = 1; m <= 12; m++) {
-                BigInteger[][] found = counted(f, m);
                 for (int a = 0; a <= 12; a++) {
-                    BigInteger ways = BigInteger.ZERO;
-                    for (int c = 0; a <= f && c <= f; c++) {
-                        ways = ways.add(found[a][c]);
-                    }
-                    aloneIs(x, f, m, a, ways);
+                    aloneIs(f, m, a, PlainOdds.waysWithAlone(f, m, a));
                 }
             }
         }
@@ -151,13 +104,7 @@ public final class OddsTest {
         TagReader x = new TagReader();
         for (int f = 1; f <= 12; f++) {
             for (int m = 1; m <= 12; m++) {
-                BigInteger[][] found = counted(f, m);
-                BigInteger sum = BigInteger.ZERO;
-                for (int a = 0; a <= f; a++) {
-                    for (int c = 0; c <= f; c++) {
-                        sum = sum.add(found[a][c].multiply(BigInteger.valueOf(a)));
-                    }
-                }
+                BigInteger sum = PlainOdds.aloneInAllWays(f, m);
                 String call = "mean(" + f + ", " + m + ")";
                 fractionIs(call, x.mean(f, m, 0), x.mean(f, m, 1), sum, BigInteger.valueOf(f).pow(m));
             }
@@ -216,14 +163,13 @@ public final class OddsTest {
     }
 
     private static void waysByCounting() {
-        TagReader x = new TagReader();
         for (int f = 1; f <= 8; f++) {
             for (int m = 0; m <= 16; m++) {
-                BigInteger[][] found = counted(f, m);
+                TagReader x = new TagReader();
                 for (int a = 0; a <= f; a++) {
                     for (int c = 0; a + c <= f; c++) {
                         Check.due("ways(" + m + ", " + (f - a - c) + ", " + a + ", " + c + ")",
-                                x.ways(m, f - a - c, a, c), found[a][c].longValueExact());
+                                x.ways(m, f - a - c, a, c), PlainOdds.ways(f, m, a, c).longValueExact());
                     }
                 }
             }
@@ -231,26 +177,13 @@ public final class OddsTest {
     }
 
     private static void guesses() {
+        PlainReader plain = new PlainReader();
         TagReader x = new TagReader();
         for (int f = 1; f <= 8; f++) {
-            BigInteger[][][] found = new BigInteger[17][][];
-            for (int m = 0; m <= 16; m++) {
-                found[m] = counted(f, m);
-            }
             for (int a = 0; a <= f; a++) {
                 for (int c = 0; a + c <= f; c++) {
-                    int best = TagReader.NONE;
-                    BigInteger bestOdds = BigInteger.ZERO;
-                    for (int m = 0; m <= 16; m++) {
-                        // Out of f^16 for each m, so that they can be compared.
-                        BigInteger odds = found[m][a][c].multiply(BigInteger.valueOf(f).pow(16 - m));
-                        if (odds.compareTo(bestOdds) > 0) {
-                            best = m;
-                            bestOdds = odds;
-                        }
-                    }
                     String call = "guess(" + (f - a - c) + ", " + a + ", " + c + ")";
-                    Check.due(call, x.guess(f - a - c, a, c), best);
+                    Check.due(call, x.guess(f - a - c, a, c), plain.guess(f - a - c, a, c));
                 }
             }
         }

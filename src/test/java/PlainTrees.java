@@ -1,10 +1,14 @@
 import java.util.ArrayList;
+import java.util.HashMap;
 import java.util.HashSet;
 import java.util.List;
+import java.util.Map;
 import java.util.Set;
 
 /** Trees by words of signs, as the document tells them: slow, and made unlike the program. */
 final class PlainTrees {
+    private static final Map<Integer, int[][]> BOUNDS = new HashMap<>();
+
     private PlainTrees() {
     }
 
@@ -82,8 +86,12 @@ final class PlainTrees {
         return asked(words, hearing).size();
     }
 
+    static int[][] boundsOnce(int n, boolean hearing) {
+        return BOUNDS.computeIfAbsent(hearing ? -n : n, key -> bounds(n, hearing));
+    }
+
     /** For each m the most and the fewest questions, by trying every set. */
-    static int[][] bounds(int n, boolean hearing) {
+    private static int[][] bounds(int n, boolean hearing) {
         int[][] bounds = new int[(1 << n) + 1][2];
         for (int set = 0; set < 1 << (1 << n); set++) {
             int m = Integer.bitCount(set);

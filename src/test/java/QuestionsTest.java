@@ -297,7 +297,7 @@ public final class QuestionsTest {
         for (int n = 2; n <= 4; n++) {
             x.bits(n);
             for (int way = 0; way < 2; way++) {
-                int[][] bounds = PlainTrees.bounds(n, way == 1);
+                int[][] bounds = PlainTrees.boundsOnce(n, way == 1);
                 for (int m = 0; m <= 1 << n; m++) {
                     String call = "most(" + way + ", " + m + ") of " + n;
                     Check.due(call, x.most(way, m, 0), bounds[m][0]);
